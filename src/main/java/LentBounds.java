@@ -276,7 +276,7 @@ public final class LentBounds {
         return rows.open(bound, side, from, to, v);
     }
 
-    /** Where nothing comes, those that wait are not looked at: they may be able to go since an own take. */
+    /** Where nothing comes nobody is woken, though an own take may have made room since for one that waits. */
     private void receive(int bound, int side, int person, long v) {
         if (v <= 0) {
             return;
