@@ -1,16 +1,40 @@
-/** Counts and prints the calls whose answer is not the one that is due. */
+import java.util.ArrayList;
+import java.util.List;
+
+/** Counts and prints the calls whose answer is not the one that is due, with the sentence that they break. */
 final class Check {
+    private static final List<String[]> SENTENCES = new ArrayList<>();
     private static int asked = 0;
     private static int wrong = 0;
+    private static int askedBefore = -1;
 
     private Check() {
+    }
+
+    /** What follows tests these words of a promise, until the next words are named. */
+    static void promise(int number, String words) {
+        sentence("Promise " + number, words);
+    }
+
+    static void terms(String words) {
+        sentence("Terms", words);
+    }
+
+    static void sentence(String section, String words) {
+        dueTested();
+        askedBefore = asked;
+        SENTENCES.add(new String[] {section, words});
+    }
+
+    /** Pairs of a section's name and words of it. */
+    static List<String[]> sentences() {
+        return SENTENCES;
     }
 
     static void due(String call, long got, long want) {
         asked++;
         if (got != want) {
-            wrong++;
-            System.out.println(call + " answered " + got + ", due is " + want);
+            say(call + " answered " + got + ", due is " + want);
         }
     }
 
@@ -27,8 +51,7 @@ final class Check {
             got = e.getClass().getName();
         }
         if (!got.equals(want.getName())) {
-            wrong++;
-            System.out.println(call + " threw " + got + ", due is " + want.getName());
+            say(call + " threw " + got + ", due is " + want.getName());
         }
     }
 
@@ -45,10 +68,35 @@ final class Check {
         }
     }
 
+    /** All that can be asked of the object is as it was. */
+    static void dueSame(String calls, LentBounds x, String before) {
+        asked++;
+        String now = State.of(x);
+        if (!now.equals(before)) {
+            say(calls + " changed\n" + before + "into\n" + now);
+        }
+    }
+
     static void finish() {
+        dueTested();
         System.out.println(wrong == 0 ? asked + " answers are as due" : wrong + " of " + asked + " answers are not as due");
         if (wrong != 0) {
             System.exit(1);
         }
+    }
+
+    private static void dueTested() {
+        if (asked == askedBefore) {
+            say("nothing is tested");
+        }
+    }
+
+    private static void say(String what) {
+        wrong++;
+        if (!SENTENCES.isEmpty()) {
+            String[] last = SENTENCES.get(SENTENCES.size() - 1);
+            System.out.print(last[0] + ", '" + last[1] + "': ");
+        }
+        System.out.println(what);
     }
 }
