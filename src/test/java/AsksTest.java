@@ -25,7 +25,8 @@ public final class AsksTest {
     }
 
     private static void termsGreatestShare() {
-        Check.terms("ASKS: a PERSON who lacks room asks: of the others that are not ENDED the one with the greatest SHARE of that side");
+        Check.terms("ASKS: a PERSON who lacks room asks: of the others that are not ENDED "
+                + "the one with the greatest SHARE of that side");
         LentBounds x = Make.weighed(9, 3, 5, 0, 6, 1);
         x.bound(0, 24, 24);
         x.weigh(5, 30);

@@ -152,7 +152,8 @@ public final class BoundsTest {
     }
 
     private static void termsTwoShares() {
-        Check.terms("Each PERSON has of each BOUND two SHARES, DOWN and UP, all of which are at first as bound() tells");
+        Check.terms("Each PERSON has of each BOUND two SHARES, DOWN and UP, "
+                + "all of which are at first as bound() tells");
         LentBounds x = Make.weighed(3, 2, 1, 0, 0, 0);
         x.bound(0, 6, 18);
         x.bound(0, 12, 12);
@@ -405,7 +406,8 @@ public final class BoundsTest {
     }
 
     private static void promise13UnderWay() {
-        Check.promise(13, "5, 6: DOWN, UP under way (in ROWS that are neither DELIVERED nor LOST, to one that is not ENDED)");
+        Check.promise(13, "5, 6: DOWN, UP under way "
+                + "(in ROWS that are neither DELIVERED nor LOST, to one that is not ENDED)");
         LentBounds x = Make.tens();
         x.bound(0, 60, 180);
         for (int n = 0; n < 4; n++) {

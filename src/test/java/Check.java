@@ -7,6 +7,7 @@ final class Check {
     private static int asked = 0;
     private static int wrong = 0;
     private static int askedBefore = -1;
+    private static String about = "";
 
     private Check() {
     }
@@ -24,6 +25,14 @@ final class Check {
         dueTested();
         askedBefore = asked;
         SENTENCES.add(new String[] {section, words});
+        about = section + ", '" + words + "': ";
+    }
+
+    /** What follows tests no words of the document. */
+    static void noSentence() {
+        dueTested();
+        askedBefore = -1;
+        about = "";
     }
 
     /** Pairs of a section's name and words of it. */
@@ -79,7 +88,8 @@ final class Check {
 
     static void finish() {
         dueTested();
-        System.out.println(wrong == 0 ? asked + " answers are as due" : wrong + " of " + asked + " answers are not as due");
+        String not = wrong + " of " + asked + " answers are not as due";
+        System.out.println(wrong == 0 ? asked + " answers are as due" : not);
         if (wrong != 0) {
             System.exit(1);
         }
@@ -93,10 +103,6 @@ final class Check {
 
     private static void say(String what) {
         wrong++;
-        if (!SENTENCES.isEmpty()) {
-            String[] last = SENTENCES.get(SENTENCES.size() - 1);
-            System.out.print(last[0] + ", '" + last[1] + "': ");
-        }
-        System.out.println(what);
+        System.out.println(about + what);
     }
 }

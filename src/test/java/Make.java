@@ -8,7 +8,7 @@ final class Make {
     static final int[] NO_BOUNDS = {-1, 1, 5, 6, 7, Integer.MIN_VALUE, Integer.MAX_VALUE};
     /** Of an object with fewer than five rows. */
     static final int[] NO_ROWS = {0, -1, 5, 200, 201, Integer.MIN_VALUE, Integer.MAX_VALUE};
-    static final long[] NO_AMOUNTS = {0, -1, -Make.MOST, -Long.MAX_VALUE, Long.MIN_VALUE};
+    static final long[] NO_AMOUNTS = {0, -1, -MOST, -Long.MAX_VALUE, Long.MIN_VALUE};
 
     private Make() {
     }

@@ -149,7 +149,8 @@ public final class RecoveryTest {
     }
 
     private static void termsRows() {
-        Check.terms("and what ROWS hold that it LENT, or that were LENT to it, and that are not DELIVERED (under way or LOST");
+        Check.terms("and what ROWS hold that it LENT, or that were LENT to it, "
+                + "and that are not DELIVERED (under way or LOST");
         LentBounds x = Make.tens();
         x.lend(0, 0, 0, 1, 3);
         x.lend(0, 0, 1, 0, 4);
@@ -284,7 +285,8 @@ public final class RecoveryTest {
     }
 
     private static void promise11Recovered() {
-        Check.promise(11, "A PERSON that is not ENDED tells that it knows all of one that is: 2 if this is RECOVERED by that");
+        Check.promise(11, "A PERSON that is not ENDED tells that it knows all of one that is: "
+                + "2 if this is RECOVERED by that");
         LentBounds x = Make.tens();
         x.end(3);
         for (int person : new int[] {5, 0, 2, 1}) {

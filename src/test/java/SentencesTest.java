@@ -4,7 +4,7 @@ import java.nio.file.Path;
 import java.util.LinkedHashMap;
 import java.util.Map;
 
-/** Each test names words that stand in the document, and all words of the terms and the promises are named by a test. */
+/** What the tests name stands in the document, and each word of the terms and the promises is named by a test. */
 public final class SentencesTest {
     private static final Path DOCUMENT = Path.of("..", "shared", "DOC.md");
 
@@ -17,6 +17,7 @@ public final class SentencesTest {
         AsksTest.all();
         EndsTest.all();
         RecoveryTest.all();
+        Check.noSentence();
         if (Files.exists(DOCUMENT)) {
             dueNamed(sections(Files.readString(DOCUMENT)));
         } else {
@@ -43,7 +44,7 @@ public final class SentencesTest {
     private static void dueNamed(Map<String, String> sections) {
         Map<String, StringBuilder> unnamed = new LinkedHashMap<>();
         sections.forEach((name, text) -> unnamed.put(name, new StringBuilder(text)));
-        for (String[] sentence : Check.sentences().toArray(new String[0][])) {
+        for (String[] sentence : Check.sentences()) {
             String text = sections.getOrDefault(sentence[0], "");
             Check.due(sentence[0] + " says '" + sentence[1] + "'", text.contains(sentence[1]), true);
             for (int at = text.indexOf(sentence[1]); at >= 0; at = text.indexOf(sentence[1], at + 1)) {

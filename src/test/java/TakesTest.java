@@ -179,7 +179,9 @@ public final class TakesTest {
         x.take(0, 0, -MOST);
         x.patient(0, true);
         String before = State.of(x);
-        long[] beyond = {MOST + 1, 2 * MOST, 1L << 62, Long.MAX_VALUE, -MOST - 1, -2 * MOST, -Long.MAX_VALUE, Long.MIN_VALUE};
+        long[] beyond = {
+            MOST + 1, 2 * MOST, 1L << 62, Long.MAX_VALUE, -MOST - 1, -2 * MOST, -Long.MAX_VALUE, Long.MIN_VALUE,
+        };
         for (long v : beyond) {
             Check.due("take " + v, x.take(0, 0, v), -1);
         }
