@@ -182,6 +182,11 @@ public final class EndsTest {
         Check.due("another one", x.person(4, 1), 0);
         x.patient(5, false);
         Check.due("off", x.person(5, 1), 0);
+        x.patient(4, true);
+        x.end(4);
+        Check.due("an ended one keeps it", x.person(4, 1), 1);
+        Make.vouchAll(x, 4);
+        Check.due("a recovered one, too", x.person(4, 1), 1);
     }
 
     private static void promise17HowManyWait() {
