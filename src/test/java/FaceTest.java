@@ -9,21 +9,21 @@ import java.util.TreeSet;
 public final class FaceTest {
     private static final String[] FACE = {
         "ask(int, int, int, long) int",
-        "bound(long, long, long) int",
+        "bound(long, long, long) int throws IllegalArgumentException ArithmeticException IllegalStateException",
         "deliver(int) int",
         "end(int) boolean",
         "lend(int, int, int, int, long) int",
-        "lent(int) long",
+        "lent(int) long throws NoSuchElementException",
         "lose(int) boolean",
         "patient(int, boolean) boolean",
         "person(int, int) int",
         "row(int, int) int",
-        "share(int, int, int) long",
-        "sum(int, int) long",
+        "share(int, int, int) long throws NoSuchElementException",
+        "sum(int, int) long throws NoSuchElementException",
         "take(int, int, long) int",
         "total(int) int",
         "vouch(int, int) int",
-        "waits(int, int) long",
+        "waits(int, int) long throws NoSuchElementException",
         "weigh(int, long) boolean",
     };
 
@@ -50,13 +50,21 @@ public final class FaceTest {
         for (Method method : face.getDeclaredMethods()) {
             if (Modifier.isPublic(method.getModifiers())) {
                 String parameters = Arrays.toString(method.getParameterTypes()).replace('[', '(').replace(']', ')');
-                seen.add(method.getName() + parameters + " " + method.getReturnType());
+                seen.add(method.getName() + parameters + " " + method.getReturnType() + thrown(method));
             } else {
                 Check.due(method + " is private", Modifier.isPrivate(method.getModifiers()), true);
                 Check.due(method + " has a name of its own", names.contains(method.getName()), false);
             }
         }
         Check.due("the methods " + seen, seen.equals(new TreeSet<>(Arrays.asList(FACE))), true);
+    }
+
+    private static String thrown(Method method) {
+        StringBuilder text = new StringBuilder();
+        for (Class<?> kind : method.getExceptionTypes()) {
+            text.append(text.length() == 0 ? " throws " : " ").append(kind.getSimpleName());
+        }
+        return text.toString();
     }
 
     private static void fields(Class<?> face) {
