@@ -8,6 +8,8 @@ import java.util.Random;
 public final class ModelTest {
     private static final int RUNS = 3000;
     private static final int CALLS = 512;
+    /** A unit with which rooms and takes come near to the greatest ones, and go beyond. */
+    private static final long HUGE = 43478260869L;
 
     public static void main(String[] args) {
         for (int run = 0; run < RUNS; run++) {
@@ -21,22 +23,23 @@ public final class ModelTest {
         LentBounds x = new LentBounds();
         Model m = new Model();
         int endsOneIn = run % 3 == 0 ? 400 : 40;
+        long unit = run % 5 == 0 ? HUGE : 1;
         for (int call = 0; call < CALLS; call++) {
             String name = "run " + run + " call " + call + " ";
-            act(name, dice, x, m, endsOneIn);
+            act(name, dice, x, m, endsOneIn, unit);
             if (call % 16 == 0 || call == CALLS - 1) {
                 look(name, x, m);
             }
         }
     }
 
-    private static void act(String name, Random dice, LentBounds x, Model m, int endsOneIn) {
+    private static void act(String name, Random dice, LentBounds x, Model m, int endsOneIn, long unit) {
         int person = number(dice, 6);
         int other = number(dice, 6);
         int bound = number(dice, 4);
         int side = number(dice, 2);
         int row = number(dice, m.rows.size() + 2);
-        long v = amount(dice);
+        long v = amount(dice) * unit;
         if (dice.nextInt(endsOneIn) == 0) {
             Check.due(name + "end", x.end(person), m.end(person));
             return;
@@ -47,8 +50,8 @@ public final class ModelTest {
                 Check.due(name + "weigh", x.weigh(person, weight), m.weigh(person, weight));
             }
             case 1 -> {
-                long floor = -amount(dice);
-                long ceiling = amount(dice) * (dice.nextInt(9) == 0 ? 10000000000L : 1);
+                long floor = -amount(dice) * unit;
+                long ceiling = amount(dice) * (dice.nextInt(9) == 0 ? 10000000000L : unit);
                 Check.due(name + "bound", made(x, floor, 0, ceiling), m.bound(floor, 0, ceiling));
             }
             case 2 -> {
